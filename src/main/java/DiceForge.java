@@ -55,8 +55,8 @@ public final class DiceForge {
     }
 
     public int seedsOf(int promise) throws IndexOutOfBoundsException {
-        // SIGNS is a prime: seeds have the same sign only if their difference or
-        // their sum and SIGN_FACTOR together are a multiple of it.
+        // SIGNS is a prime: two seeds have the same sign just if it divides their
+        // difference, or their sum and SIGN_FACTOR together.
         int seed = promiseAt(promise).seed;
         int remainder = seed % SIGNS;
         int mirrored = Math.floorMod(-SIGN_FACTOR - seed, SIGNS);
