@@ -7,6 +7,7 @@ import com.sun.source.tree.ImportTree;
 import com.sun.source.tree.LambdaExpressionTree;
 import com.sun.source.tree.LiteralTree;
 import com.sun.source.tree.MemberReferenceTree;
+import com.sun.source.tree.MethodInvocationTree;
 import com.sun.source.tree.MethodTree;
 import com.sun.source.tree.NewClassTree;
 import com.sun.source.tree.SynchronizedTree;
@@ -15,35 +16,52 @@ import com.sun.source.tree.Tree;
 import com.sun.source.tree.TryTree;
 import com.sun.source.tree.VariableTree;
 import com.sun.source.util.JavacTask;
-import com.sun.source.util.SourcePositions;
-import com.sun.source.util.TreeScanner;
+import com.sun.source.util.TreePathScanner;
 import com.sun.source.util.Trees;
 import java.io.IOException;
 import java.nio.file.Path;
 import java.util.ArrayList;
 import java.util.List;
+import java.util.Map;
 import java.util.Set;
+import javax.lang.model.element.Element;
 import javax.lang.model.element.Modifier;
 import javax.tools.JavaCompiler;
 import javax.tools.StandardJavaFileManager;
 import javax.tools.ToolProvider;
 
-/** Rules of LANGUAGE.md that can be read off the parsed source. */
-public final class LanguageTest extends TreeScanner<Void, Void> {
+/** Rules of LANGUAGE.md that can be read off the source and the names that it uses. */
+public final class LanguageTest extends TreePathScanner<Void, Void> {
     private static final Set<String> IMPORTS =
             Set.of("java.util.ArrayList", "java.util.List", "java.util.Arrays", "java.util.Iterator");
     private static final Set<String> EXCEPTIONS = Set.of("IllegalStateException", "IllegalArgumentException",
             "IndexOutOfBoundsException");
+    private static final String LIST_CALLS = "add|get|set|remove|size|isEmpty|clear";
+    private static final String NUMBER_CALLS = "compare|max|min|abs|bitCount|floorDiv|floorMod|signum";
+    /** The part of rule 4's library that the program may come to need, as patterns of each type's names. */
+    private static final Map<String, String> LIBRARY = Map.of(
+            "java.lang.Object", "<init>",
+            "java.lang.String", "length|charAt|isEmpty|equals|indexOf|substring|toCharArray",
+            "java.lang.StringBuilder", "<init>|append|charAt|setCharAt|setLength|deleteCharAt|reverse|length|toString",
+            "java.lang.Integer", NUMBER_CALLS,
+            "java.lang.Long", NUMBER_CALLS,
+            "java.lang.Math", NUMBER_CALLS,
+            "java.lang.System", "arraycopy",
+            "java.util.ArrayList", "<init>|" + LIST_CALLS,
+            "java.util.List", "of|" + LIST_CALLS,
+            "java.util.Arrays", "copyOf|copyOfRange|fill");
+    private static final Set<String> STATIC_TYPES =
+            Set.of("int", "long", "boolean", "char", "String", "int[]", "long[]", "char[]", "byte[]");
 
     private final List<String> faults = new ArrayList<>();
     private final CompilationUnitTree unit;
-    private final SourcePositions positions;
+    private final Trees trees;
     private int classes;
     private boolean inConstructor;
 
-    private LanguageTest(CompilationUnitTree unit, SourcePositions positions) {
+    private LanguageTest(CompilationUnitTree unit, Trees trees) {
         this.unit = unit;
-        this.positions = positions;
+        this.trees = trees;
     }
 
     public static void main(String[] args) throws IOException {
@@ -51,8 +69,10 @@ public final class LanguageTest extends TreeScanner<Void, Void> {
         try (StandardJavaFileManager files = compiler.getStandardFileManager(null, null, null)) {
             var sources = files.getJavaFileObjects(Path.of("src/main/java/DiceForge.java"));
             JavacTask task = (JavacTask) compiler.getTask(null, files, null, null, null, sources);
-            for (CompilationUnitTree unit : task.parse()) {
-                LanguageTest test = new LanguageTest(unit, Trees.instance(task).getSourcePositions());
+            Iterable<? extends CompilationUnitTree> units = task.parse();
+            task.analyze();
+            for (CompilationUnitTree unit : units) {
+                LanguageTest test = new LanguageTest(unit, Trees.instance(task));
                 test.scan(unit, null);
                 Checks.due("faults against LANGUAGE.md", List.of(), () -> test.faults);
                 Checks.due("a package", null, unit::getPackageName);
@@ -63,7 +83,7 @@ public final class LanguageTest extends TreeScanner<Void, Void> {
     }
 
     private void fault(Tree tree, String what) {
-        faults.add("line " + lineOf(positions.getStartPosition(unit, tree)) + ": " + what);
+        faults.add("line " + lineOf(trees.getSourcePositions().getStartPosition(unit, tree)) + ": " + what);
     }
 
     private long lineOf(long position) {
@@ -104,13 +124,16 @@ public final class LanguageTest extends TreeScanner<Void, Void> {
         if (!modifiers.contains(Modifier.FINAL)) {
             fault(field, "rule 5, a static field that is not final");
         }
+        if (!STATIC_TYPES.contains(field.getType().toString())) {
+            fault(field, "rule 5, a static field of " + field.getType());
+        }
         return 0;
     }
 
     @Override
     public Void visitMethod(MethodTree tree, Void none) {
-        long first = lineOf(positions.getStartPosition(unit, tree));
-        long last = lineOf(positions.getEndPosition(unit, tree));
+        long first = lineOf(trees.getSourcePositions().getStartPosition(unit, tree));
+        long last = lineOf(trees.getSourcePositions().getEndPosition(unit, tree));
         if (last - first >= 60 || tree.getParameters().size() > 7) {
             fault(tree, "rule 11, a method too long");
         }
@@ -135,6 +158,32 @@ public final class LanguageTest extends TreeScanner<Void, Void> {
             }
         }
         return super.visitThrow(tree, none);
+    }
+
+    @Override
+    public Void visitMethodInvocation(MethodInvocationTree tree, Void none) {
+        requireLibrary(tree);
+        return super.visitMethodInvocation(tree, none);
+    }
+
+    /** Exceptions are made behind throw alone; visitThrow has looked at those. */
+    @Override
+    public Void visitNewClass(NewClassTree tree, Void none) {
+        boolean thrown = getCurrentPath().getParentPath().getLeaf() instanceof ThrowTree;
+        if (!thrown) {
+            requireLibrary(tree);
+        }
+        return super.visitNewClass(tree, none);
+    }
+
+    private void requireLibrary(Tree tree) {
+        Element called = trees.getElement(getCurrentPath());
+        String owner = called.getEnclosingElement().toString();
+        boolean own = owner.matches("DiceForge(\\..*)?");
+        boolean listed = called.getSimpleName().toString().matches(LIBRARY.getOrDefault(owner, ""));
+        if (!own && (!listed || called.asType().toString().matches(".*(double|float).*"))) {
+            fault(tree, "rule 4, " + tree);
+        }
     }
 
     @Override
